@@ -196,6 +196,8 @@ public final class PromisesTest {
         due(3, "told(19)", x.told(19), 1);
         due(3, "goBack(0) in spite of the fault", x.goBack(0), 1);
         x.seed(78);
+        x.car(7);
+        x.hour(1);
         feed(x, "x20 3;g5 2;");
         due(3, "fair()", x.fair(), 1);
         due(4, "fault()", x.fault(), NONE);
@@ -213,6 +215,23 @@ public final class PromisesTest {
         due(3, "told(3)", x.told(3), 0);
         due(3, "board()", x.board(), NOT);
         due(3, "told(8)", x.told(8), 0);
+        CaptiveCar often = fairOf("x20 3;l2 2;g5 2;p5;");
+        feed(often, "x30 4;l3 9;g6 3;p6;");
+        due(3, "fair(), the second", often.fair(), 1);
+        due(3, "fair() of nothing, the third", often.fair(), 0);
+        for (int what = 0; what < 5; what++) {
+            due(3, "told(" + what + ")", often.told(what), 0);
+        }
+        due(3, "car(1)", often.car(1), OUTSIDE);
+        feed(often, "x40 5;l1 3;g7 1;p4;");
+        due(3, "fair(), the fourth", often.fair(), 1);
+        due(3, "told(2)", often.told(2), 1);
+        feed(often, "x50 6;g8 1;");
+        due(3, "fair(), the fifth", often.fair(), 1);
+        due(3, "told(2)", often.told(2), 0);
+        due(3, "speed(900)", often.speed(900), 1);
+        often.join(0);
+        due(3, "told(15), the price untold again", often.told(15), 12);
     }
 
     private static void told() {
@@ -284,6 +303,8 @@ public final class PromisesTest {
         due(7, "goer(2, 4) at 39", x.goer(2, 4), 39);
         x.hour(500);
         due(7, "goer(2, 4) at most", x.goer(2, 4), 40);
+        due(7, "goer(1, 4)", x.goer(1, 4), 69);
+        due(7, "goer(3, 4), halved above 30", x.goer(3, 4), 189);
         x.off(2);
         x.car(0);
         due(7, "goer(2, 5)", x.goer(2, 5), 3);
@@ -560,6 +581,7 @@ public final class PromisesTest {
         due(19, "age(0, 501)", x.age(0, 501), OUTSIDE);
         due(19, "age(0, -1)", x.age(0, -1), OUTSIDE);
         due(19, "age(0, 99)", x.age(0, 99), 20);
+        due(19, "age(0, 0)", x.age(0, 0), 20);
         due(19, "age(0, 100)", x.age(0, 100), 21);
         x.join(0);
         x.join(1);
@@ -591,6 +613,12 @@ public final class PromisesTest {
         due(20, "let(0, 100, 60, 1) above the end", x.let(0, 100, 60, 1), NONE);
         due(20, "let(0, 1, 20, 1)", x.let(0, 1, 20, 1), 300);
         due(20, "let(0, 1, 20, 0)", x.let(0, 1, 20, 0), 0);
+        CaptiveCar child = fairOf("x10 1;l5 50;l9 60;g0 0;");
+        due(20, "let(0, 2, 0, 1)", child.let(0, 2, 0, 1), 4);
+        due(20, "let(0, 2, 1, 0)", child.let(0, 2, 1, 0), 5);
+        due(20, "let(0, 2, 1, 1)", child.let(0, 2, 1, 1), 10);
+        due(20, "let(0, 500, 300, 0)", child.let(0, 500, 300, 0), 9);
+        due(20, "let(0, 500, 999, 0)", child.let(0, 500, 999, 0), NONE);
     }
 
     private static void sames() {
@@ -611,6 +639,27 @@ public final class PromisesTest {
         due(21, "same(0, 1, 0)", x.same(0, 1, 0), 4950);
         due(21, "same(0, 3, 1) over the edge", x.same(0, 3, 1), NONE);
         due(21, "same(0, 3, 0) over the edge", x.same(0, 3, 0), NONE);
+        x.off(0);
+        x.car(0);
+        x.join(1);
+        x.board();
+        x.car(1);
+        x.hour(1);
+        due(21, "same(0, 1, 1), both alike fast", x.same(0, 1, 1), NONE);
+        x.car(0);
+        x.alight();
+        due(21, "same(0, 1, 1) at the edge yet", x.same(0, 1, 1), 5000);
+        CaptiveCar late = fairOf("x10 2;l1 2;g20 0;g70 0;");
+        late.join(1);
+        late.board();
+        late.car(1);
+        late.hour(1);
+        late.car(0);
+        late.alight();
+        late.join(0);
+        late.board();
+        late.car(1);
+        due(21, "same(0, 1, 1), 5001 would be", late.same(0, 1, 1), NONE);
     }
 
     private static void waiting() {
@@ -649,6 +698,16 @@ public final class PromisesTest {
         due(23, "best(0)", x.best(0), 500);
         due(23, "best(1)", x.best(1), 372);
         due(23, "told(12)", x.told(12), 2);
+        CaptiveCar soon = fairOf("x10 1;l1 60;g0 2;");
+        soon.join(0);
+        soon.board();
+        soon.car(1);
+        soon.hour(33);
+        due(23, "told(12)", soon.told(12), 39);
+        due(23, "best(0), the next hour", soon.best(0), 1);
+        soon.hour(1);
+        due(23, "best(0), now", soon.best(0), 0);
+        due(23, "best(1)", soon.best(1), 40);
     }
 
     private static void wasAndMeet() {
@@ -758,6 +817,13 @@ public final class PromisesTest {
         x.see(900, 2, false);
         due(29, "laws(0), nothing at 900", x.laws(0), 0);
         x.tear();
+        x.see(899, 2, false);
+        x.see(900, 59, true);
+        due(29, "laws(0), from 900 on", x.laws(0), 2);
+        due(29, "laws(1), from 900 on", x.laws(1), 900);
+        due(29, "laws(2), from 900 on", x.laws(2), 59);
+        due(30, "yard(), from 900 on", x.yard(), NONE);
+        x.tear();
         x.see(100, 10, true);
         due(29, "laws(0)", x.laws(0), 5100);
         x.tear();
@@ -803,6 +869,16 @@ public final class PromisesTest {
         due(31, "feel(0, 2)", x.feel(0, 2), OUTSIDE);
         due(31, "told(17)", x.told(17), 6);
         due(32, "ends(0)", x.ends(0), 0);
+        x.tear();
+        x.feel(50, 1);
+        due(32, "ends(1), felt there alone", x.ends(1), 50);
+        due(32, "ends(2), felt there alone", x.ends(2), 50);
+        x.tear();
+        x.feel(899, 0);
+        due(32, "ends(3), above 899", x.ends(3), 900);
+        x.tear();
+        x.feel(2, 2);
+        due(32, "ends(3), below 2", x.ends(3), 1);
     }
 
     private static void book() {
@@ -886,6 +962,29 @@ public final class PromisesTest {
         due(38, "told(11)", x.told(11), 30);
         due(38, "goer(1, 3)", x.goer(1, 3), 9);
         due(38, "seed(6)", x.seed(6), 5);
+        CaptiveCar heights = fairOf("x30 1;l20 9;g1 1;");
+        heights.join(0);
+        heights.board();
+        heights.car(10);
+        heights.off(0);
+        heights.keep(0);
+        heights.fetch(0);
+        heights.car(20);
+        heights.off(0);
+        due(38, "goer(0, 6)", heights.goer(0, 6), 20);
+        heights.keep(1);
+        heights.goBack(0);
+        due(38, "goer(0, 6), gone back", heights.goer(0, 6), 10);
+        due(38, "told(6), gone back", heights.told(6), 10);
+        heights.fetch(0);
+        heights.car(29);
+        heights.off(0);
+        heights.undo();
+        heights.undo();
+        due(18, "undo() fetch", heights.undo(), 0);
+        due(18, "goer(0, 6), undone", heights.goer(0, 6), 10);
+        heights.goBack(1);
+        due(38, "goer(0, 6), gone back to the other", heights.goer(0, 6), 20);
         CaptiveCar none = new CaptiveCar();
         due(37, "keep(0) without a fair", none.keep(0), 1);
         due(38, "goBack(0) without a fair", none.goBack(0), 1);
