@@ -170,6 +170,18 @@ public final class PromisesTest {
         dueText("x10 1;l9 2;l0 2;", -12, 12);
         dueText("x10 1;l9 2;l;", -11, 12);
         dueText("x99999999999999999999 1;", -12, 1);
+        dueText("x10 1;" + " ".repeat(234), 0, NONE);
+        dueText(" ".repeat(234) + "x10 1;", 0, NONE);
+        dueText(" ".repeat(235) + "x10 1", -11, 240);
+        dueText(" ".repeat(239) + "x", -11, 240);
+        // Letters of a text that is gone are no part of the next one.
+        CaptiveCar x = fairOf("x10 1;g3 3;");
+        feed(x, "x10 1");
+        due(3, "fair() without the last letter", x.fair(), -11);
+        due(4, "fault()", x.fault(), 5);
+        feed(x, "x10");
+        due(3, "fair() of three letters", x.fair(), -11);
+        due(4, "fault()", x.fault(), 3);
     }
 
     private static void fairAnew() {
