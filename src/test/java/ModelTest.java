@@ -935,8 +935,9 @@ public final class ModelTest {
             tell(x, m);
         }
         int steps = 20 + roll(120);
-        for (int i = 0; i < steps; i++) {
-            int k = roll(100);
+        // A text and the last look at all of the state stay within the 512 calls.
+        for (int i = 0; i < steps && log.size() < 420; i++) {
+            int k = roll(log.size() < 200 ? 100 : 99);
             if (k < 62) {
                 doSomething(x, m);
             } else if (k < 84) {
