@@ -13,6 +13,7 @@ public final class DeedBoundsTest extends Sentences {
         heights();
         alightings();
         offAndFetched();
+        offAndFetchedAtHeights();
         hours();
         hoursFull();
         skills();
@@ -29,6 +30,15 @@ public final class DeedBoundsTest extends Sentences {
         due("told(9)", r.x().told(9), 0);
         due("car(0)", r.x().car(0), NOT);
         due("alight()", r.x().alight(), 0);
+        says("GOERS are on the ground (at first), in THE QUEUE, in THE CAR, or set down at a height");
+        Run all = new Run("x10 8;" + EIGHT);
+        for (int g = 0; g < 8; g++) {
+            due("goer(" + g + ", 5)", all.x().goer(g, 5), 0);
+            due("goer(" + g + ", 3)", all.x().goer(g, 3), 0);
+        }
+        due("told(8)", all.x().told(8), 0);
+        due("told(9)", all.x().told(9), 0);
+        due("told(10)", all.x().told(10), 0);
     }
 
     private static void speeds() {
@@ -140,7 +150,7 @@ public final class DeedBoundsTest extends Sentences {
     }
 
     private static void boardings() {
-        says("from THE QUEUE's front on, as many as there is room, come into it, each pays PRICE");
+        says("BOARDED, with THE CAR at 0: from THE QUEUE's front on, as many as there is room, come into it, each pays PRICE");
         for (int room = 1; room <= 8; room++) {
             for (int queue = 0; queue <= 8; queue++) {
                 Run r = new Run("x10 " + room + ";p5;" + EIGHT);
@@ -216,6 +226,7 @@ public final class DeedBoundsTest extends Sentences {
         r.at(10);
         due("alight() at 10", r.x().alight(), NOT);
         r.at(0);
+        says("ALIGHTED, with THE CAR at 0: all are on the ground.");
         due("alight() of seven", r.x().alight(), 7);
         due("told(9)", r.x().told(9), 0);
         due("told(10), set down yet", r.x().told(10), 8);
@@ -281,6 +292,28 @@ public final class DeedBoundsTest extends Sentences {
         one.x().off(0);
         one.at(0).boarded(1).at(1);
         due("fetch(0), the only place taken", one.x().fetch(0), FULL);
+    }
+
+    private static void offAndFetchedAtHeights() {
+        says("OFF: a GOER in THE CAR, at a height of 1 or more, is set down at that height; FETCHED: it comes into THE CAR there.");
+        int[] all = {1, 2, 899, 900};
+        for (int y : all) {
+            Run r = new Run("x900 1;l899 5;g4 1;").boarded(0);
+            due("off(0) at 0", r.x().off(0), NOT);
+            r.at(y);
+            due("off(0) at " + y, r.x().off(0), 0);
+            due("goer(0, 6)", r.x().goer(0, 6), y);
+            r.at(0).hours(2);
+            due("goer(0, 1), THE CAR at 0", r.x().goer(0, 1), y < 899 ? 402 : 410);
+            r.at(y - 1);
+            due("fetch(0) from a yard below", r.x().fetch(0), NOT);
+            due("car(a yard above)", r.x().car(y + 1), y == 900 ? OUTSIDE : y - 1);
+            due("fetch(0) from there", r.x().fetch(0), NOT);
+            r.at(y);
+            due("fetch(0) from " + y, r.x().fetch(0), 1);
+            due("goer(0, 5)", r.x().goer(0, 5), 2);
+            due("goer(0, 6)", r.x().goer(0, 6), y);
+        }
     }
 
     private static void hours() {
@@ -432,7 +465,23 @@ public final class DeedBoundsTest extends Sentences {
     }
 
     private static void told() {
-        says("18 entries of THE BOOK, 19 how many can be undone. OUTSIDE.");
+        says("`int told(int what)`: 0 E, 1 C, 2 LAYERS, 3 GOERS, 4 letters of THE TEXT, 5 HOURS, 6 the height of THE CAR, 7 1 it PULLS, 0 not, "
+            + "8 GOERS in THE QUEUE, 9 in THE CAR, 10 set down (SETS of GOERS), 11 GOT, 12 BAND, 13 YOUNGEST, 14 OLDEST, 15 TAKINGS, "
+            + "16 what is SEEN, 17 what is FELT, 18 entries of THE BOOK, 19 how many can be undone. OUTSIDE.");
+        Run rich = new Run("x11 3;l11 2;l12 3;g20 4;g30 4;g10 4;g40 1;p7;").boarded(0, 1).joined(3, 2).at(11);
+        rich.x().off(1);
+        rich.hours(13);
+        rich.x().see(1, 1, true);
+        rich.x().feel(1, 0);
+        rich.x().feel(2, 0);
+        rich.x().write(0, 20);
+        rich.x().write(0, 20);
+        rich.x().write(0, 20);
+        rich.feed("x20 1");
+        int[] due = {11, 3, 2, 4, 5, 13, 11, 1, 12, 1, 2, 14, 5, 2, 3, 14, 1, 2, 3, 8};
+        for (int what = 0; what < 20; what++) {
+            due("told(" + what + ")", rich.x().told(what), due[what]);
+        }
         int[] outside = {-1, 20, LEAST, MOST};
         Run r = new Run("x10 2;");
         Run none = new Run();

@@ -6,6 +6,7 @@ public final class TextBoundsTest extends Sentences {
 
     public static void main(String[] args) {
         calls512();
+        madeNew();
         terms();
         lengthOfText();
         endAndRoom();
@@ -62,6 +63,34 @@ public final class TextBoundsTest extends Sentences {
         due("the 511th call, told(6)", r.x().told(6), height);
         due("the 512th call, undo()", r.x().undo(), 15);
         due("calls", r.calls, 512);
+    }
+
+    private static void madeNew() {
+        says("`CaptiveCar()`: No FAIR.");
+        Run r = new Run();
+        for (int what = 0; what < 20; what++) {
+            due("told(" + what + ")", r.x().told(what), what == 13 || what == 14 ? NONE : 0);
+        }
+        due("fault()", r.x().fault(), NONE);
+        due("speed(0)", r.x().speed(0), NOT);
+        due("goer(0, 0)", r.x().goer(0, 0), UNKNOWN);
+        due("front(0)", r.x().front(0), NONE);
+        due("join(0)", r.x().join(0), UNKNOWN);
+        due("leave(0)", r.x().leave(0), UNKNOWN);
+        due("board()", r.x().board(), NOT);
+        due("car(0)", r.x().car(0), NOT);
+        due("alight()", r.x().alight(), NOT);
+        due("off(0)", r.x().off(0), UNKNOWN);
+        due("fetch(0)", r.x().fetch(0), UNKNOWN);
+        due("hour(1)", r.x().hour(1), NOT);
+        due("drift(1)", r.x().drift(1), NOT);
+        due("undo()", r.x().undo(), NOT);
+        due("let(0, 1, 0, 0)", r.x().let(0, 1, 0, 0), UNKNOWN);
+        due("same(0, 1, 0)", r.x().same(0, 1, 0), UNKNOWN);
+        due("judge()", r.x().judge(), NONE);
+        due("goBack(0)", r.x().goBack(0), NOT);
+        due("goBack(1)", r.x().goBack(1), NOT);
+        due("seed(0)", r.x().seed(0), 0);
     }
 
     private static void terms() {
@@ -310,7 +339,7 @@ public final class TextBoundsTest extends Sentences {
     private static void emptyText() {
         says("An empty text (or one of blanks alone): no FAIR.");
         for (int blanks = 0; blanks <= 240; blanks += 60) {
-            Run r = new Run("x10 1;l5 2;g5 2;p3;").boarded(0).at(5).hours(3);
+            Run r = new Run("x20 2;l7 3;g6 1;p4;", "x10 1;l5 2;g5 2;p3;").boarded(0).at(5).hours(3);
             r.x().see(1, 1, true);
             r.x().keep(1);
             r.x().car(1);
@@ -371,6 +400,22 @@ public final class TextBoundsTest extends Sentences {
             due("seed(77)", r.x().seed(77), 77);
         }
         due("undo()", r.x().undo(), is[19] - 1);
+        // Nothing of a text with a FAULT, nor of the fair before the last, is in the next one.
+        Run often = new Run("x20 2;l7 3;l8 4;g6 1;g7 1;p4;", "x30 3;l1 2;p5;g1 1;");
+        due("fair(), the third", often.feed("x40 4;p6;g5 5;").x().fair(), -12);
+        due("fair(), the fourth", often.feed("x50 5;l9 9;l10 10;l11 11;g8 3;g9 4;g10 4;p7;!").x().fair(), -11);
+        due("fair(), the fifth", often.feed("x60 6;l2 8;p8;g4 2;").x().fair(), 1);
+        int[] fifth = {60, 6, 1, 1};
+        for (int what = 0; what < 4; what++) {
+            due("told(" + what + ") of the fifth", often.x().told(what), fifth[what]);
+        }
+        due("speed(900) of the fifth", often.x().speed(900), 8);
+        due("goer(0, 1) of the fifth", often.x().goer(0, 1), 400);
+        due("goer(1, 1) of the fifth", often.x().goer(1, 1), UNKNOWN);
+        due("told(15) of the fifth", often.joined(0).x().told(15), 8);
+        due("fair(), the sixth", often.feed("x70 7;g3 1;").x().fair(), 1);
+        due("told(2) of the sixth", often.x().told(2), 0);
+        due("told(15) of the sixth", often.joined(0).x().told(15), 12);
         says("The letter of the FAULT of the latest fair(); NONE.");
         Run f = new Run();
         due("fault() ahead of all", f.x().fault(), NONE);

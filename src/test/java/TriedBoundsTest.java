@@ -165,7 +165,8 @@ public final class TriedBoundsTest extends Sentences {
     }
 
     private static void waits() {
-        says("till a GOER of THE QUEUE is in it (1: the next one); NONE: it is not in THE QUEUE.");
+        says("WAITS: how many BOARDINGS, one behind the other, THE CAR empty ahead of each, "
+            + "till a GOER of THE QUEUE is in it (1: the next one); NONE: it is not in THE QUEUE.");
         for (int room = 1; room <= 8; room++) {
             Run r = new Run("x10 " + room + ";" + EIGHT).joined(7, 6, 5, 4, 3, 2, 1, 0);
             for (int turn = 0; turn < 8; turn++) {
@@ -220,6 +221,10 @@ public final class TriedBoundsTest extends Sentences {
         r.hours(1);
         due("best(0), now", r.x().best(0), 0);
         due("best(1), now", r.x().best(1), 40);
+        Run eight = new Run("x10 8;g0 1;g0 1;g0 1;g0 1;g0 1;g0 1;g0 1;g0 1;").boarded(0, 1, 2, 3, 4, 5, 6, 7);
+        due("best(0) of eight", eight.x().best(0), 500);
+        due("best(1) of eight", eight.x().best(1), 40);
+        due("told(12) of eight", eight.hours(100).x().told(12), 8);
         says("BEST: what = 0 behind how many, 1 how much. OUTSIDE.");
         Run none = new Run();
         for (int what : beyond(0, 1)) {
@@ -276,7 +281,8 @@ public final class TriedBoundsTest extends Sentences {
     }
 
     private static void meets() {
-        says("(a, b 1 .. 999; c, d 0 .. 999): the first HOUR at which both strike; NONE.");
+        says("MEET: one clock strikes at HOUR c and each a HOURS from then on, another one at HOUR d and each b "
+            + "(a, b 1 .. 999; c, d 0 .. 999): the first HOUR at which both strike; NONE.");
         Run r = new Run();
         for (int v : beyond(1, 999)) {
             due("meet(" + v + ", 1, 0, 0)", r.x().meet(v, 1, 0, 0), OUTSIDE);
@@ -742,6 +748,23 @@ public final class TriedBoundsTest extends Sentences {
             }
         }
         due("undo() of none", r.x().undo(), NOT);
+        r = new Run("x10 1;" + EIGHT).joined(5, 0, 7);
+        r.x().leave(5);
+        due("undo() of leave(5)", r.x().undo(), 3);
+        dueQueue(r, 5, 0, 7);
+        r.boarded();
+        due("undo() of board()", r.x().undo(), 3);
+        dueQueue(r, 5, 0, 7);
+        r.boarded().at(3);
+        r.x().off(5);
+        r.x().fetch(5);
+        r.at(9);
+        r.x().off(5);
+        due("goer(5, 6)", r.x().goer(5, 6), 9);
+        r.x().undo();
+        r.x().undo();
+        due("undo() of fetch(5)", r.x().undo(), 6);
+        due("goer(5, 6), set down where it was", r.x().goer(5, 6), 3);
         says("UNDONE: the latest of join(), leave(), board(), car(), alight(), off(), fetch(), hour(), drift() that was not refused");
         r = new Run("x10 2;l1 5;g5 0;g5 0;").joined(0);
         r.x().join(0);
@@ -776,6 +799,13 @@ public final class TriedBoundsTest extends Sentences {
         due("the seed moved", seed == 77 ? 1 : 0, 0);
         r.x().undo();
         due("the seed, undone", r.x().seed(0), 123);
+    }
+
+    private static void dueQueue(Run r, int... goers) {
+        for (int n = 0; n < goers.length; n++) {
+            due("front(" + n + ")", r.x().front(n), goers[n]);
+        }
+        due("front(" + goers.length + ")", r.x().front(goers.length), NONE);
     }
 
     private static void undoneRing() {
@@ -871,6 +901,22 @@ public final class TriedBoundsTest extends Sentences {
         due("goBack(1), the other is untouched", r.x().goBack(1), 1);
         due("told(6) of the one", r.x().told(6), 3);
         says("IMAGES 0, 1 keep all of section 2, THE SEED.");
+        r = new Run("x10 1;" + EIGHT).boarded(3).at(3);
+        r.x().off(3);
+        r.joined(6, 1, 4);
+        r.x().keep(0);
+        r.x().fetch(3);
+        r.at(8);
+        r.x().off(3);
+        r.x().leave(6);
+        r.joined(0);
+        r.x().keep(1);
+        r.x().goBack(0);
+        dueQueue(r, 6, 1, 4);
+        due("goer(3, 6), set down where it was", r.x().goer(3, 6), 3);
+        r.x().goBack(1);
+        dueQueue(r, 1, 4, 0);
+        due("goer(3, 6) of the other", r.x().goer(3, 6), 8);
         r = new Run("x10 2;g5 1;");
         r.x().see(1, 1, true);
         r.x().keep(0);
