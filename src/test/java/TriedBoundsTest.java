@@ -521,6 +521,10 @@ public final class TriedBoundsTest extends Sentences {
         dueEnds(new int[] {5, 0, 6, 2}, 0, NONE, NONE, NONE);
         dueEnds(new int[] {5, 0, 7, 2}, 1, 6, 6, 6);
         dueEnds(new int[] {5, 1, 6, 1}, 0, NONE, NONE, NONE);
+        // What is felt may be further apart than by one: none fits then either, not less than none.
+        dueEnds(new int[] {5, 1, 7, 1}, 0, NONE, NONE, NONE);
+        dueEnds(new int[] {900, 0, 1, 2}, 0, NONE, NONE, NONE);
+        dueEnds(new int[] {500, 0, 100, 2}, 0, NONE, NONE, NONE);
         dueEnds(new int[] {5, 1, 5, 0}, 0, NONE, NONE, NONE);
         dueEnds(new int[] {5, 1, 5, 2}, 0, NONE, NONE, NONE);
         dueEnds(new int[] {5, 1, 4, 0, 6, 2}, 1, 5, 5, 5);
