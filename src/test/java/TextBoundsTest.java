@@ -17,6 +17,7 @@ public final class TextBoundsTest extends Sentences {
         faults();
         emptyText();
         newFair();
+        newFairFromAllPlaces();
         end();
     }
 
@@ -459,5 +460,42 @@ public final class TextBoundsTest extends Sentences {
         due("goer(1, 5)", n.x().goer(1, 5), 0);
         due("front(0)", n.x().front(0), NONE);
         due("seed(0)", n.x().seed(0), MOST);
+    }
+
+    /** From a fair with GOERS at each of the places, a second time with the same text, then with one of more and of fewer. */
+    private static void newFairFromAllPlaces() {
+        says("(HOUR 0, all on the ground, as told, THE CAR at 0, nothing GOT;");
+        String text = "x40 2;l5 3;g5 1;g9 4;g7 3;g1 2;p7;";
+        int[][] texts = {{5, 1}, {9, 4}, {7, 3}, {1, 2}};
+        Run r = new Run(text).boarded(0, 1, 2).at(5).hours(30);
+        r.x().off(0);
+        r.at(40).hours(500);
+        int[] places = {3, 2, 1, 0};
+        for (int g = 0; g < 4; g++) {
+            due("goer(" + g + ", 5) ahead", r.x().goer(g, 5), places[g]);
+        }
+        due("told(11) ahead", r.x().told(11), 14);
+        due("fair()", r.feed(text).x().fair(), 4);
+        allAsTold(r, texts);
+        due("told(6)", r.x().told(6), 0);
+        r.boarded(3, 2).at(40).hours(7);
+        r.x().off(3);
+        due("fair() of one GOER", r.feed("x40 2;l5 3;g6 4;").x().fair(), 1);
+        allAsTold(r, new int[][] {{6, 4}});
+        due("fair() of four again", r.feed(text).x().fair(), 4);
+        allAsTold(r, texts);
+    }
+
+    private static void allAsTold(Run r, int[][] goers) {
+        for (int what : new int[] {5, 6, 7, 8, 9, 10, 11, 12, 15, 19}) {
+            due("told(" + what + ")", r.x().told(what), 0);
+        }
+        for (int g = 0; g < goers.length; g++) {
+            int[] fresh = {goers[g][0], goers[g][0] * 100, goers[g][1], 0, 0, 0, 0};
+            for (int what = 0; what < fresh.length; what++) {
+                due("goer(" + g + ", " + what + ")", r.x().goer(g, what), fresh[what]);
+            }
+            due("front(" + g + ")", r.x().front(g), NONE);
+        }
     }
 }
