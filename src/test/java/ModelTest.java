@@ -953,8 +953,69 @@ public final class ModelTest {
         state(x, m);
     }
 
+    static void hours(CaptiveCar x, Model m, int n) {
+        due("hour(" + n + ")", x.hour(n), m.hour(n));
+    }
+
+    static void goUp(CaptiveCar x, Model m) {
+        for (int g = 0; g < m.w.people.size(); g++) {
+            due("join(" + g + ")", x.join(g), m.join(g));
+        }
+        due("board()", x.board(), m.board());
+        int y = roll(m.law.e + 1);
+        due("car(" + y + ")", x.car(y), m.car(y));
+    }
+
+    /** Up to the last HOURS, where hour() and drift() are FULL, and on from there; answers whether FULL was met. */
+    static boolean lateRun() {
+        log.clear();
+        CaptiveCar x = new CaptiveCar();
+        Model m = new Model();
+        tell(x, m);
+        // Behind a longer text the 512 calls would not be enough.
+        if (!m.law.told || log.size() > 150) {
+            return false;
+        }
+        goUp(x, m);
+        while (99999 - m.w.hours > 500) {
+            hours(x, m, 500);
+        }
+        int below = roll(4);
+        hours(x, m, Math.max(1, 99999 - m.w.hours - below));
+        boolean full = false;
+        for (int i = 0; i < 40; i++) {
+            int n = 1 + roll(roll(2) == 0 ? 2 : 60);
+            switch (roll(5)) {
+                case 0: hours(x, m, n); break;
+                case 1: due("drift(" + n + ")", x.drift(n), m.drift(n)); break;
+                case 2: due("undo()", x.undo(), m.undo()); break;
+                case 3: trySomething(x, m); break;
+                default: doSomething(x, m); break;
+            }
+            full |= m.w.hours > 99999;
+        }
+        hours(x, m, 1);
+        due("drift(1)", x.drift(1), m.drift(1));
+        state(x, m);
+        return full;
+    }
+
+    static void lateRuns(int runs) {
+        int met = 0;
+        for (int i = 0; i < runs; i++) {
+            met += lateRun() ? 1 : 0;
+        }
+        if (met < runs / 3) {
+            wrong++;
+            System.out.println("only " + met + " of " + runs + " runs went past 99999 HOURS");
+        }
+    }
+
     public static void main(String[] args) {
         int runs = args.length > 0 ? Integer.parseInt(args[0]) : 2500;
+        if (args.length > 1) {
+            random.setSeed(Long.parseLong(args[1]));
+        }
         for (int i = 0; i < runs; i++) {
             oneRun(roll(12) > 0);
         }
@@ -962,6 +1023,7 @@ public final class ModelTest {
             log.clear();
             tell(new CaptiveCar(), new Model());
         }
+        lateRuns(Math.max(30, runs / 25));
         System.out.println(calls + " calls, " + wrong + " wrong");
         if (wrong != 0) {
             System.exit(1);
